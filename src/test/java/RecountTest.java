@@ -5,6 +5,7 @@ public final class RecountTest {
     public static void main(String[] arguments) {
         drawAnswers();
         drawOfAGreatNumber();
+        drawAtTheEdges();
         drawErrors();
         countAnswers();
         countErrors();
@@ -53,6 +54,18 @@ public final class RecountTest {
         // 12345 by 65536: 0
         CHECKS.due("draw by 0", x.draw(), 0);
         CHECKS.due("the number", x.state(11), 12345);
+    }
+
+    /** Seeds, the numbers that they become (at multiples of 65536, and one below), and the piles. */
+    private static void drawAtTheEdges() {
+        int[][] edges = {{576240414, 2147418111, 6}, {286434947, 2147418112, 7}, {230538014, 2147483647, 7},
+            {1815783043, 458752, 7}, {2105588510, 458751, 6}, {2088216195, 0, 0}};
+        for (int[] edge : edges) {
+            PileRecount x = withPiles(10);
+            x.seed(edge[0]);
+            CHECKS.due("draw by " + edge[0], x.draw(), edge[2]);
+            CHECKS.due("the number behind " + edge[0], x.state(11), edge[1]);
+        }
     }
 
     private static void drawErrors() {

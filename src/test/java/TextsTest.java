@@ -94,6 +94,7 @@ public final class TextsTest {
         dueFault("01,1", 1);
         dueFault("1000,1", 3);
         dueFault("1,2345", 5);
+        dueFault("1009,1", 3);
         dueFault("1,2,05", 5);
         dueFault("1,2=1000,3", 7);
         dueFault("1,2=1,9999", 9);

@@ -10,6 +10,7 @@ public final class UndoSaveTest {
         saveOverwrites();
         restoreAnswers();
         restoreErrors();
+        rowsThatAreUsedAgain();
         twoObjects();
         CHECKS.end("UndoSaveTest");
     }
@@ -144,6 +145,28 @@ public final class UndoSaveTest {
         CHECKS.due("no change", x.state(13), 2);
         CHECKS.due("restore(1)", x.restore(1), 0);
         CHECKS.due("a change without a difference", x.state(13), 3);
+    }
+
+    private static void rowsThatAreUsedAgain() {
+        PileRecount x = withTwoPiles();
+        x.finds(1, 8, 9);
+        x.save(0);
+        x.undo();
+        x.undo();
+        x.pile(7, 6, 5);
+        x.restore(0);
+        int[] want = {30, 10, 2, 42};
+        for (int what = 0; what < 4; what++) {
+            CHECKS.due("restored: ofPile(1, " + what + ")", x.ofPile(1, what), want[what]);
+        }
+        x.count(1);
+        CHECKS.due("restored: found for 0", x.ofPile(1, 5), 8);
+        CHECKS.due("restored: found for 1", x.ofPile(1, 6), 9);
+        x.undo();
+        x.undo();
+        CHECKS.due("undone: blanks", x.ofPile(1, 2), 5);
+        x.count(1);
+        CHECKS.due("undone: it finds what is reported", x.ofPile(1, 5), 7);
     }
 
     private static void twoObjects() {

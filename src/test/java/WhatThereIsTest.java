@@ -116,6 +116,24 @@ public final class WhatThereIsTest {
         CHECKS.due("one may stop", x.state(9), 1);
         x.count(0);
         CHECKS.due("a swing of 0 turns nothing", x.state(5), NONE);
+        x = new PileRecount();
+        x.pile(1, 0, 0);
+        CHECKS.due("a lead of 1", x.state(5), 1);
+        x.pile(4, 0, 0);
+        x.count(1);
+        x.count(0);
+        x.undo();
+        CHECKS.due("together much less", x.state(5), NONE);
+        x = new PileRecount();
+        x.pile(30, 0, 0);
+        x.pile(0, 0, 29);
+        x.count(0);
+        CHECKS.due("together less by 1", x.state(5), NONE);
+        x = new PileRecount();
+        x.pile(30, 0, 0);
+        x.pile(0, 0, 30);
+        x.count(0);
+        CHECKS.due("together as many", x.state(5), 1);
     }
 
     private static void stateOfARisk() {
