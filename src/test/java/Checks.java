@@ -1,3 +1,4 @@
+import java.util.List;
 import java.util.Objects;
 
 /** Counts answers that are not due, and ends a test's run with exit code 1 if there was one. */
@@ -18,6 +19,15 @@ final class Checks {
         for (int what = 0; what < want.length; what++) {
             due(when + ": state(" + what + ")", recount.state(what), want[what]);
         }
+    }
+
+    /** Compares what is seen of two recounts, and tells the first difference alone. */
+    void dueLooks(String when, List<String> got, List<String> want) {
+        int at = 0;
+        while (at < want.size() - 1 && at < got.size() - 1 && got.get(at).equals(want.get(at))) {
+            at++;
+        }
+        due(when + ": look " + at, got.get(at), want.get(at));
     }
 
     void end(String test) {

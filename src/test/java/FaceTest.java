@@ -23,6 +23,9 @@ public final class FaceTest {
     private static void constants(Class<?> face) throws IllegalAccessException {
         Set<String> names = new TreeSet<>();
         for (Field field : face.getDeclaredFields()) {
+            if (field.isSynthetic()) {
+                continue;
+            }
             int modifiers = field.getModifiers();
             boolean isConstant = Modifier.isStatic(modifiers) && Modifier.isFinal(modifiers);
             if (Modifier.isPublic(modifiers) && isConstant) {
@@ -47,6 +50,9 @@ public final class FaceTest {
         Set<String> hidden = new TreeSet<>();
         Set<String> names = new TreeSet<>();
         for (Method method : face.getDeclaredMethods()) {
+            if (method.isSynthetic()) {
+                continue;
+            }
             if (Modifier.isPublic(method.getModifiers())) {
                 names.add(method.getName());
                 open.add(method.getName() + Arrays.toString(method.getParameterTypes()));
