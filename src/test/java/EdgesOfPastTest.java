@@ -11,6 +11,7 @@ public final class EdgesOfPastTest {
         undoFromNoneToSix();
         undoneStatesAreGone();
         droppedStatesAreGone();
+        eachChangeDropsTheOldest();
         recordedThoughNothingIsDifferent();
         undoBringsEverythingBack();
         restoreCanBeUndone();
@@ -94,6 +95,57 @@ public final class EdgesOfPastTest {
         }
         CHECKS.due("LIMIT", x.state(10), 500);
         CHECKS.due("the number", x.state(11), 19);
+    }
+
+    /** "when one more is recorded, the oldest one is dropped": behind six changes, by each kind of one more. */
+    private static void eachChangeDropsTheOldest() {
+        dueDropped("pile", x -> x.pile(1, 2, 3));
+        dueDropped("finds", x -> x.finds(1, 0, 39));
+        dueDropped("limit", x -> x.limit(1));
+        dueDropped("seed", x -> x.seed(0));
+        dueDropped("draw", PileRecount::draw);
+        dueDropped("count", x -> x.count(2));
+        dueDropped("finish", PileRecount::finish);
+        dueDropped("restore", x -> x.restore(1));
+        dueDropped("make", PileRecount::make);
+        PileRecount x = withSixChanges();
+        x.undo();
+        x.count(0);
+        CHECKS.due("stop()", x.stop(), 1);
+        dueSixUndone("stop", x, 13);
+    }
+
+    /** The first of them makes three piles, the second one changes LIMIT; four more can be seen at the seed. */
+    private static PileRecount withSixChanges() {
+        PileRecount x = new PileRecount();
+        x.save(1);
+        Checks.putText(x, "20,19;20,19;20,19");
+        x.make();
+        x.limit(9999);
+        for (int seed = 11; seed <= 14; seed++) {
+            x.seed(seed);
+        }
+        Checks.putText(x, "5,6;7,8");
+        CHECKS.due("six changes", x.state(13), 6);
+        return x;
+    }
+
+    private static void dueDropped(String change, Consumer<PileRecount> call) {
+        PileRecount x = withSixChanges();
+        call.accept(x);
+        dueSixUndone(change, x, 14);
+    }
+
+    private static void dueSixUndone(String change, PileRecount x, int latest) {
+        int[] numbers = {1, 1, 11, 12, 13, latest};
+        CHECKS.due(change + ": six are kept", x.state(13), 6);
+        for (int left = 5; left >= 0; left--) {
+            CHECKS.due(change + ": undo()", x.undo(), left);
+            CHECKS.due(change + ": the number with " + left, x.state(11), numbers[left]);
+        }
+        CHECKS.due(change + ": LIMIT", x.state(10), 500);
+        CHECKS.due(change + ": the first change stays", x.state(0), 3);
+        CHECKS.due(change + ": undo() once more", x.undo(), NOT_POSSIBLE);
     }
 
     /** "(also if nothing is different then)" */

@@ -5,6 +5,7 @@ public final class EdgesOfRiskTest {
 
     public static void main(String[] arguments) {
         leastAndGreatestSwing();
+        swingIsWhatCanBeLost();
         needIsAtLeastTheLead();
         needIsTheFewest();
         needOfAllThatAreLeft();
@@ -68,6 +69,26 @@ public final class EdgesOfRiskTest {
         }
         x.count(0);
         CHECKS.due("no swing of a counted pile", x.ofPile(0, 8), NONE);
+    }
+
+    /** "(so much its lead could become less)": if a recount finds all of its ballots for the loser. */
+    private static void swingIsWhatCanBeLost() {
+        int[][] piles = {{200, 0, 200}, {30, 40, 5}, {0, 50, 0}, {0, 0, 9}, {60, 60, 60}, {0, 0, 0}};
+        for (int winner = 0; winner <= 1; winner++) {
+            for (int pile = 0; pile < piles.length; pile++) {
+                PileRecount x = new PileRecount();
+                for (int[] of : piles) {
+                    x.pile(of[winner], of[1 - winner], of[2]);
+                }
+                int swing = x.ofPile(pile, 8);
+                int size = x.ofPile(pile, 3);
+                int lead = x.state(4);
+                CHECKS.due("all of it for the loser", x.finds(pile, winner * size, size - winner * size) >= 0, true);
+                x.count(pile);
+                CHECKS.due("lost in pile " + pile + " by the winner " + x.state(2), lead - x.state(4), swing);
+                CHECKS.due("worse, if there is something to lose", x.ofPile(pile, 7), swing > 0 ? 1 : 0);
+            }
+        }
     }
 
     /** "the fewest piles that are not counted whose swings are together at least the lead" */

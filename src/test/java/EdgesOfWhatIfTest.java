@@ -19,6 +19,7 @@ public final class EdgesOfWhatIfTest {
         wrongOrdersAtTheEdge();
         wrongOrdersOfARightOutcome();
         wrongOrdersOfTenPiles();
+        wrongOrdersAreOfTheSameOrders();
         suspectsOfTheSameSwing();
         suspectsFirstAndLast();
         suspectsNoneAndZero();
@@ -267,6 +268,33 @@ public final class EdgesOfWhatIfTest {
         CHECKS.due("one worse of ten, 9 draws", x.wrongOrders(), 362880);
         x.limit(999);
         CHECKS.due("one worse of ten, 10 draws", x.wrongOrders(), 0);
+    }
+
+    /** "of the same orders": all of them stop if the outcome is right; if it is not, just the wrong ones do. */
+    private static void wrongOrdersAreOfTheSameOrders() {
+        for (int limit : new int[] {1, 2500, 3000, 5000, 6000, 7500, 9999}) {
+            for (int found = 16; found <= 19; found++) {
+                PileRecount x = even(4, limit);
+                x.finds(0, 19, 20);
+                x.finds(3, found, 19);
+                int orders = 24;
+                for (int pile = 0; pile < 4; pile++) {
+                    String when = "LIMIT " + limit + ", found " + found + ", counted " + pile;
+                    // a lead of 2 in the piles 1 and 2, of -1 in pile 0, and of found - 19 in pile 3
+                    CHECKS.due(when, allOrders(x), found == 19 ? orders : x.wrongOrders());
+                    orders /= 4 - pile;
+                    x.count((pile + 1) % 4);
+                }
+            }
+        }
+    }
+
+    private static int allOrders(PileRecount x) {
+        int all = 0;
+        for (int draws = 0; draws <= 10; draws++) {
+            all += x.orders(draws);
+        }
+        return all;
     }
 
     /** "with the greatest swings, of several with the same the lowest ones" */

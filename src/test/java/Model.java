@@ -1,7 +1,10 @@
 import java.math.BigInteger;
 import java.util.ArrayList;
 import java.util.Comparator;
+import java.util.HashMap;
 import java.util.List;
+import java.util.Map;
+import java.util.Set;
 import java.util.regex.Matcher;
 import java.util.regex.Pattern;
 
@@ -109,24 +112,25 @@ final class Model {
         return left;
     }
 
-    /** By trying all sets of piles, not by ranks of swings. */
+    /** By the greatest sum of so many swings, or fewer, not by ranks of swings. */
     private static int need(State s) {
         if (lead(s) <= 0) {
             return 0;
         }
         List<Integer> left = left(s);
-        int need = NONE;
-        for (int set = 0; set < 1 << left.size(); set++) {
-            int together = 0;
-            for (int i = 0; i < left.size(); i++) {
-                together += (set >> i & 1) * swing(s, left.get(i));
-            }
-            int size = Integer.bitCount(set);
-            if (together >= lead(s) && (need == NONE || size < need)) {
-                need = size;
+        int[] greatest = new int[left.size() + 1];
+        for (int pile : left) {
+            int swing = swing(s, pile);
+            for (int many = left.size(); many >= 1; many--) {
+                greatest[many] = Math.max(greatest[many], greatest[many - 1] + swing);
             }
         }
-        return need;
+        for (int many = 1; many <= left.size(); many++) {
+            if (greatest[many] >= lead(s)) {
+                return many;
+            }
+        }
+        return NONE;
     }
 
     private static boolean worse(State s, int pile) {
@@ -390,25 +394,34 @@ final class Model {
         if (draws < 0 || draws > 10) {
             return BAD_VALUE;
         }
-        return winner(state) == NONE ? NOT_POSSIBLE : stops(state, 0, draws, draws);
+        return winner(state) == NONE ? NOT_POSSIBLE : stops(state, 0, draws, draws, new HashMap<>());
     }
 
     int wrongOrders() {
         if (winner(state) == NONE) {
             return NOT_POSSIBLE;
         }
-        return right(state) ? 0 : stops(state, 0, 0, 10);
+        return right(state) ? 0 : stops(state, 0, 0, 10, new HashMap<>());
     }
 
-    /** Counts, one order after the other, those that stop behind least to most draws. */
-    private static int stops(State s, int drawn, int least, int most) {
+    /**
+     * Counts the orders that stop behind least to most draws, one pile after the other; what is known
+     * of the piles that are counted is not counted again, in whatever order they were drawn.
+     */
+    private static int stops(State s, int drawn, int least, int most, Map<Set<Integer>, Integer> known) {
         if (mayStop(s)) {
             return drawn >= least && drawn <= most ? factorial(left(s).size()).intValue() : 0;
         }
+        Set<Integer> counted = Set.copyOf(s.counted);
+        Integer before = known.get(counted);
+        if (before != null) {
+            return before;
+        }
         int stops = 0;
         for (int pile : left(s)) {
-            stops += stops(s.withCounted(pile), drawn + 1, least, most);
+            stops += stops(s.withCounted(pile), drawn + 1, least, most, known);
         }
+        known.put(counted, stops);
         return stops;
     }
 
